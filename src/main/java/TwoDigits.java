@@ -541,20 +541,14 @@ public final class TwoDigits {
       return NONE;
     }
     for (int test = 0; test < tests.size; test++) {
-      tests.put(test, SHOWN, faultsShownBy(test));
+      int shown = 0;
+      for (int fault = 0; fault < faults.size; fault++) {
+        shown |= isShown(test, fault) ? 1 << fault : 0;
+      }
+      tests.put(test, SHOWN, shown);
     }
     int all = faultsShown(ALL);
     return what == 0 ? fewestTests(all) : Integer.bitCount(all);
-  }
-
-  private int faultsShownBy(int test) {
-    int shown = 0;
-    for (int fault = 0; fault < faults.size; fault++) {
-      if (isShown(test, fault)) {
-        shown |= 1 << fault;
-      }
-    }
-    return shown;
   }
 
   private int faultsShown(int some) {
@@ -1313,9 +1307,8 @@ public final class TwoDigits {
       return hasWindow ? inWindow(number, pivots[field]) : number;
     }
 
-    boolean leapsIn(int field, int number) {
-      int year = meaning(field, number);
-      return isLeap(!whole && year < 100 ? 1900 + year : year, rule);
+    boolean leapsIn(int meant) {
+      return isLeap(!whole && meant < 100 ? 1900 + meant : meant, rule);
     }
   }
 
@@ -1403,7 +1396,6 @@ public final class TwoDigits {
       return end;
     }
 
-    /** A RUN that is over with its 150th LINE has ended or STOPPED; only one that would go on LOOPS. */
     void step() {
       hasWritten = false;
       if (isOver()) {
@@ -1412,20 +1404,20 @@ public final class TwoDigits {
       linesDone++;
       int f = code.lefts[line];
       int g = code.rights[line];
-      int onwards = code.numbers[line];
+      int n = code.numbers[line];
       int next = line + 1;
       switch (code.ops[line]) {
-        case Code.NOW: put(f, year); break;
+        case Code.NOW: numbers[f] = setting.cut(f, year); break;
         case Code.IN: readInto(f); break;
         case Code.OUT: writeFrom(f); break;
-        case Code.SET: put(f, code.numbers[line]); break;
-        case Code.MOV: put(f, numbers[g]); break;
-        case Code.ADD: put(f, numbers[f] + numbers[g]); break;
-        case Code.SUB: put(f, numbers[f] - numbers[g]); break;
-        case Code.IF_BELOW: next = compared(f, g) < 0 ? onwards : next; break;
-        case Code.IF_ALIKE: next = compared(f, g) == 0 ? onwards : next; break;
-        case Code.LEAP: next = setting.leapsIn(f, numbers[f]) ? onwards : next; break;
-        case Code.GO: next = onwards; break;
+        case Code.SET: numbers[f] = setting.cut(f, n); break;
+        case Code.MOV: numbers[f] = setting.cut(f, numbers[g]); break;
+        case Code.ADD: numbers[f] = setting.cut(f, numbers[f] + numbers[g]); break;
+        case Code.SUB: numbers[f] = setting.cut(f, numbers[f] - numbers[g]); break;
+        case Code.IF_BELOW: next = meaningOf(f) < meaningOf(g) ? n : next; break;
+        case Code.IF_ALIKE: next = meaningOf(f) == meaningOf(g) ? n : next; break;
+        case Code.LEAP: next = setting.leapsIn(meaningOf(f)) ? n : next; break;
+        case Code.GO: next = n; break;
         default: end = ENDED; break;
       }
       if (!isOver()) {
@@ -1433,6 +1425,7 @@ public final class TwoDigits {
       }
     }
 
+    /** A RUN that is over with its 150th LINE has ended; only one that would go on LOOPS. */
     void goOnTo(int next) {
       line = next;
       if (line >= code.size) {
@@ -1442,16 +1435,12 @@ public final class TwoDigits {
       }
     }
 
-    void put(int field, int number) {
-      numbers[field] = setting.cut(field, number);
-    }
-
     void readInto(int field) {
       if (!in.has(nextIn)) {
         end = STOPPED;
         return;
       }
-      put(field, in.get(nextIn));
+      numbers[field] = setting.cut(field, in.get(nextIn));
       nextIn++;
     }
 
@@ -1463,8 +1452,8 @@ public final class TwoDigits {
       }
     }
 
-    int compared(int f, int g) {
-      return Integer.compare(setting.meaning(f, numbers[f]), setting.meaning(g, numbers[g]));
+    int meaningOf(int field) {
+      return setting.meaning(field, numbers[field]);
     }
   }
 
