@@ -593,14 +593,14 @@ public final class TwoDigits {
     int leastHarm = rehearsedHarm(0, year, false);
     int fewestDays = 0;
     for (int some = 1; some <= told; some++) {
-      int takes = daysOf(some);
-      if ((some & ~told) == 0 && takes <= days) {
-        int harm = rehearsedHarm(some, year, false);
-        if (harm < leastHarm || (harm == leastHarm && takes < fewestDays)) {
-          best = some;
-          leastHarm = harm;
-          fewestDays = takes;
-        }
+      if ((some & ~told) != 0 || daysOf(some) > days) {
+        continue;
+      }
+      int harm = rehearsedHarm(some, year, false);
+      if (harm < leastHarm || (harm == leastHarm && daysOf(some) < fewestDays)) {
+        best = some;
+        leastHarm = harm;
+        fewestDays = daysOf(some);
       }
     }
     return best;

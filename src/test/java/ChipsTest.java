@@ -103,6 +103,18 @@ public final class ChipsTest {
     x.ask(1, 1900);
     check.due("pivot 0: 1900, rules 1, 2", x.fit(1, 0), 2);
     check.due("the least", x.fit(1, 1), 1);
+    TwoDigits y = new TwoDigits();
+    y.chip(0, 2);
+    y.ask(0, 1901);
+    check.due("pivots 0, 1", y.fit(0, 0), 6);
+    check.due("1900 or 2000", y.fit(0, 2), 1900);
+    check.due("of three rules two alike", y.fit(0, 3), 2);
+    y.chip(1, 1);
+    y.ask(1, 2000);
+    y.ask(1, 2002);
+    check.due("pivots 1, 2", y.fit(1, 0), 2);
+    check.due("1901 or 2001", y.fit(1, 2), 1901);
+    check.due("one alike", y.fit(1, 3), 1);
     x.chip(100, 1);
     x.ask(2, 1900);
     check.due("2000 does not leap: rule 1", x.fit(2, 0), 100);

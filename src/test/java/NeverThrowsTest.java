@@ -20,7 +20,7 @@ public final class NeverThrowsTest {
     Method[] methods = TwoDigits.class.getDeclaredMethods();
     methods = Arrays.stream(methods).filter(m -> (m.getModifiers() & 1) != 0)
         .sorted(Comparator.comparing(Method::getName)).toArray(Method[]::new);
-    check.due("methods of the face", methods.length, 43 - 1);
+    check.due("methods of the face", methods.length, 42);
     for (int seed = 0; seed < 400; seed++) {
       Random chance = new Random(seed);
       TwoDigits x = new TwoDigits();

@@ -68,6 +68,12 @@ public final class NightsTest {
         check.due("shows(" + test + ", " + fault + ")", x.shows(test, fault), want[test][fault]);
       }
     }
+    x.fault(0, 1, 2, 60);
+    x.fault(0, 1, 2, 0);
+    x.testYear(2070);
+    check.due("b means 2050: 70 is below", x.shows(2, 4), 1);
+    check.due("and 2000", x.shows(0, 4), 0);
+    check.due("b means 1950: 70 is below", x.shows(2, 5), 1);
     x.input(2, 0);
     check.due("an empty file", x.shows(0, 3), 0);
     x.does(0, 0, 0, 0);
@@ -78,9 +84,9 @@ public final class NightsTest {
     x.run(0, 1999);
     check.due("inputs as they are", x.shows(0, 3), 1);
     check.due("no run but that was counted", x.count(11), 1);
-    check.due("no such test", x.shows(2, 0), -1);
+    check.due("no such test", x.shows(3, 0), -1);
     check.due("no such test", x.shows(-1, 0), -1);
-    check.due("no such fault", x.shows(0, 4), -1);
+    check.due("no such fault", x.shows(0, 6), -1);
     check.due("no such fault", x.shows(0, -1), -1);
   }
 
@@ -297,6 +303,7 @@ public final class NightsTest {
     check.due("the second", x.posts(3, 3), 0b0010);
     check.due("no such what", x.posts(3, 5), -1);
     check.due("no such what, ahead of the hands", x.posts(0, -1), -1);
+    check.due("no such what, ahead of the hands", x.posts(0, 5), -1);
     check.due("hands", x.posts(0, 0), -2);
     check.due("hands", x.posts(4, 0), -2);
     check.due("hands, ahead of no such hand", x.posts(0, 4), -2);

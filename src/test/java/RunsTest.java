@@ -153,6 +153,7 @@ public final class RunsTest {
     leaping("set a 99;leap a 3;end;out a", 2000, 2, 4, -1, 0, 0);
     leaping("set a 100;leap a 3;end;out a", 2000, 0, 4, -1, 1, 0);
     leaping("set a 100;leap a 3;end;out a", 2000, 1, 4, -1, 0, 0);
+    leaping("set a 100;leap a 3;end;out a", 2000, 2, 4, -1, 0, 0);
     leaping("set a 400;leap a 3;end;out a", 2000, 2, 4, 3, 1, 1);
     leaping("set a 0;leap a 3;end;out a", 2000, 2, 4, -1, 0, 1);
     leaping("set a 0;leap a 3;end;out a", 2000, 0, 4, -1, 1, 1);
@@ -461,6 +462,8 @@ public final class RunsTest {
     x.mend(1, 0, 0, 3, 2, 20);
     check.due("20 against 25", x.cross(0, 1, 0), 5);
     check.due("the least", x.cross(0, 1, 1), 20);
+    check.due("no such what", x.cross(0, 1, 2), -1);
+    check.due("no such what", x.cross(0, 1, -1), -1);
     x.mend(1, 0, 0, 3, 2, 12);
     check.due("20 against 25 and 12", x.cross(0, 1, 0), 13);
     check.due("the least", x.cross(0, 1, 1), 12);
@@ -471,8 +474,6 @@ public final class RunsTest {
     x.mend(0, 0, 0, 1, 4, 20);
     check.due("no out field of two", x.cross(0, 1, 0), 0);
     check.due("no out field of two", x.cross(0, 1, 1), -1);
-    check.due("no such what", x.cross(0, 1, 2), -1);
-    check.due("no such what", x.cross(0, 1, -1), -1);
     check.due("not its input", x.cross(0, 2, 0), -1);
     check.due("not its input", x.cross(1, 0, 0), -1);
     check.due("no such", x.cross(-1, 0, 0), -1);
@@ -489,5 +490,17 @@ public final class RunsTest {
     x.mend(0, 0, 0, 1, 2, 99);
     x.mend(1, 0, 0, 2, 2, 100);
     check.due("only 99", x.cross(0, 1, 1), 99);
+    TwoDigits y = Land.with("now f;out f", "in a;in f;if b<c 0;mov d b");
+    y.input(1, 0);
+    y.does(1, 0, 0, 0);
+    for (int field = 1; field < 5; field++) {
+      y.mend(1, 0, 0, field, 2, 50);
+    }
+    check.due("only what in reads", y.cross(0, 1, 0), 0);
+    y.mend(1, 0, 0, 0, 2, 50);
+    check.due("the first field", y.cross(0, 1, 0), 100);
+    y.mend(1, 0, 0, 0, 4, 50);
+    y.mend(1, 0, 0, 5, 2, 50);
+    check.due("the last field", y.cross(0, 1, 0), 100);
   }
 }

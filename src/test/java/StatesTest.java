@@ -288,7 +288,7 @@ public final class StatesTest {
     check.due("no such program", x.breaks(-1, 0, 2, 0, 0), -1);
     check.due("no such field", x.breaks(0, 6, 3, 0, 0), -1);
     check.due("no such field", x.breaks(0, -1, 2, 0, 0), -1);
-    check.due("no such what", x.breaks(0, 0, 2, 0, 2), -1);
+    check.due("no such what", x.breaks(0, 0, 4, 0, 2), -1);
     check.due("no such what, ahead of the digits", x.breaks(0, 0, 3, 0, -1), -1);
     check.due("digits", x.breaks(0, 0, 3, 0, 0), -2);
     check.due("pivot", x.breaks(0, 0, 2, 101, 0), -2);
