@@ -23,7 +23,7 @@ public final class RoomTest {
   }
 
   private static long bytes() {
-    return MEASURE.getThreadAllocatedBytes(Thread.currentThread().getId());
+    return MEASURE.getCurrentThreadAllocatedBytes();
   }
 
   private static TwoDigits landOfLoops() {
