@@ -130,6 +130,24 @@ public final class EdgesOfNightsTest {
         shows(0, 0) 0
         mend(0, 0, 0, 1, 4, -1) 2
         shows(0, 0) 1""");
+    edge("a PROGRAM with one FIELD's DIGITS and PIVOT otherwise: by the PIVOT told", """
+        "now a;set b 50;if a<b 4;end;out b" 0
+        does(0, 0, 0, 0) 1
+        mend(0, 0, 0, 0, 2, 50) 2
+        mend(0, 0, 0, 1, 2, 50) 2
+        testYear(2029) 0
+        testYear(2030) 1
+        testYear(2049) 2
+        testYear(2050) 3
+        testYear(1929) 4
+        fault(0, 0, 2, 30) 0
+        fault(0, 0, 4, 30) 1
+        shows(0, 0) 0
+        shows(1, 0) 1
+        shows(2, 0) 1
+        shows(3, 0) 0
+        shows(0, 1) 0
+        shows(4, 1) 1""");
     edge("shows: (INPUTS as they are)", """
         "in a;out a" 0
         testYear(2000) 0
@@ -335,6 +353,17 @@ public final class EdgesOfNightsTest {
         first(1, 0, 1999, 0) 2
         first(1, 1, 1999, 0) 1
         first(2, 1, 1999, 0) 2""");
+    edge("an OFF one's FILE, and its TWIN's, are empty in its turn: whatever was thought of before", """
+        "now a;out a" 0
+        "in b;out b" 1
+        input(1, 0) NONE
+        beside(1999) 2
+        first(3, 0, 1999, 0) 2
+        does(0, 0, 0, 2) 5
+        first(3, 0, 1999, 0) 1
+        beside(1999) 2
+        first(2, 9, 1999, 0) 1
+        first(2, 9, 1999, 1) 0""");
     edge("FIRST is only thought of: no RUN, no FILE is another one", """
         "now a;out a" 0
         run(0, 1905) 0

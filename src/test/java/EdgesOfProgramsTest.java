@@ -7,6 +7,7 @@ public final class EdgesOfProgramsTest {
 
   public static void main(String[] args) {
     newObject();
+    used();
     feed();
     program();
     lines();
@@ -40,6 +41,18 @@ public final class EdgesOfProgramsTest {
         cell(1, 0, 1) -11
         cell(2, 0, 1) -11
         cell(3, 0, 1) BAD""");
+  }
+
+  private static void used() {
+    edge("An object is used for at most 512 calls: the last of them", """
+        "now a;out a" 0
+        507 x run(0, 1999) 0
+        count(11) 507""");
+    edge("An object is used for at most 512 calls: each told in THE BOOK", """
+        "end" 0
+        does(0, 0, 0, 0) 1
+        508 x mendRule(0, 7, 999, 2) 2
+        count(6) 509""");
   }
 
   private static void feed() {
@@ -240,6 +253,11 @@ public final class EdgesOfProgramsTest {
     edge("the first byte: what follows it is not looked at", """
         "xend" -10
         "now g;zzz" -14""");
+    edge("the FAULT of the longest PROGRAM: a digit too many, a ; behind it", """
+        "set a 1234;set a 1234;set a 1234;set a 1234;set a 1234;set a 1234;set a 1234;set a 1234;\
+        set a 1234;set a 1234;set a 1234;set f 12345" -141
+        "set a 1234;set a 1234;set a 1234;set a 1234;set a 1234;set a 1234;set a 1234;set a 1234;\
+        set a 1234;set a 1234;set a 1234;set f 1234;" -141""");
     edge("the FAULT of a later LINE", """
         "end;end;x" -18
         "now a;now b;now g" -26""");
@@ -347,6 +365,34 @@ public final class EdgesOfProgramsTest {
         input(1, 2) NONE
         field(0, 5, 2) 1
         field(1, 5, 2) 1""");
+    edge("SURE: so all that follow: backwards through all FIELDS of twelve PROGRAMS", """
+        11 x "mov f e;mov e d;mov d c;mov c b;mov b a;in a;out f"
+        "mov f e;mov e d;mov d c;mov c b;mov b a;now a;out f" 11
+        input(0, 1)
+        input(1, 2)
+        input(2, 3)
+        input(3, 4)
+        input(4, 5)
+        input(5, 6)
+        input(6, 7)
+        input(7, 8)
+        input(8, 9)
+        input(9, 10)
+        input(10, 11)
+        field(0, 5, 2) 1
+        field(0, 0, 2) 1
+        field(6, 3, 2) 1""");
+    edge("SURE: wherever the LINE stands that writes it or gives it", """
+        "out a;end;now a" 0
+        "end;in b" 1
+        input(1, 0) NONE
+        field(1, 1, 2) 1
+        field(1, 0, 2) 0""");
+    edge("MAY: wherever the if stands", """
+        "if b<a 0;end;now a;end;if a=c 0" 0
+        field(0, 1, 2) 2
+        field(0, 2, 2) 2
+        field(0, 3, 2) 0""");
     edge("SURE: round about, without a year, is none", """
         "in a;out a" 0
         "in a;out a" 1
