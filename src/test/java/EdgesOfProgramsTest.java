@@ -253,6 +253,24 @@ public final class EdgesOfProgramsTest {
     edge("the first byte: what follows it is not looked at", """
         "xend" -10
         "now g;zzz" -14""");
+    edge("the end of THE TAPE: what a longer one had there is gone", """
+        "mov a f;end;leap f 99;if c=d 7" 0
+        "mov a f;en" -20
+        "mov a f;" -18
+        "mov a " -16
+        "mov a" -15
+        "mo" -12
+        "mov a f;end;leap f 99;if c=d 7" 1
+        "mov a f;end;leap f 99;if c=" -37
+        "mov a f;end;leap f " -29
+        "mov a f;end;leap " -27""");
+    edge("the end of THE TAPE: a number ends there, too", """
+        "set a 1234" 0
+        "set a 5" 1
+        "go 12" 2
+        "go 0" 3
+        run(1, 2000) 0
+        run(3, 2000) 2""");
     edge("the FAULT of the longest PROGRAM: a digit too many, a ; behind it", """
         "set a 1234;set a 1234;set a 1234;set a 1234;set a 1234;set a 1234;set a 1234;set a 1234;\
         set a 1234;set a 1234;set a 1234;set f 12345" -141

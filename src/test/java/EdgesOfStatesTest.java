@@ -528,6 +528,12 @@ public final class EdgesOfStatesTest {
         chip(0, 0) 5
         chip(0, 0) FULL
         count(1) 6""");
+    edge("CHIPS 0 .. 5: none is behind the last", """
+        6 x chip(0, 0)
+        ask(5, 2000) 3801
+        ask(6, 2000) NONE
+        fit(6, 0) NONE
+        ask(7, 2000) NONE""");
     edge("23: a PIVOT (0 .. 100)", """
         chip(-1, 0) BAD
         chip(101, 0) BAD
